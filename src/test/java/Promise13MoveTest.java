@@ -129,6 +129,7 @@ public final class Promise13MoveTest {
     private static void wrong() {
         RangeReaders empty = new RangeReaders();
         Check.badState("move without a rectangle", () -> empty.move(0, 1, 1));
+        Check.badArgument("move to no sheet without a rectangle", () -> empty.move(8, 1, 1));
         RangeReaders x = new RangeReaders();
         Check.put(x, 0, 0, 2, 3, 4, 6);
         bad(x, -1, 1, 1);
