@@ -4,28 +4,28 @@ final class Check {
     static final int LAST_COLUMN = 16384;
 
     private static int wrong = 0;
+    private static String words = "";
 
     private Check() {
     }
 
+    /** The words of the document that the answers from here on are about. */
+    static void sentence(String quoted) {
+        words = "[" + quoted + "] ";
+    }
+
     static void due(String call, long got, long want) {
-        if (got != want) {
-            wrong++;
-            System.out.println(call + " answered " + got + ", due is " + want);
-        }
+        due(call, Long.toString(got), Long.toString(want));
     }
 
     static void due(String call, boolean got, boolean want) {
-        if (got != want) {
-            wrong++;
-            System.out.println(call + " answered " + got + ", due is " + want);
-        }
+        due(call, Boolean.toString(got), Boolean.toString(want));
     }
 
     static void due(String call, String got, String want) {
         if (!got.equals(want)) {
             wrong++;
-            System.out.println(call + " answered " + got + ", due is " + want);
+            System.out.println(words + call + " answered " + got + ", due is " + want);
         }
     }
 
@@ -35,6 +35,20 @@ final class Check {
 
     static void badState(String call, Runnable body) {
         due(call, thrownBy(body), "IllegalStateException");
+    }
+
+    /** A call that is refused with an exception, and leaves the object as it was. */
+    static void badArgument(RangeReaders x, String call, Runnable body) {
+        String before = state(x);
+        badArgument(call, body);
+        due("the state after " + call, state(x), before);
+    }
+
+    /** A call that is refused with an exception, and leaves the object as it was. */
+    static void badState(RangeReaders x, String call, Runnable body) {
+        String before = state(x);
+        badState(call, body);
+        due("the state after " + call, state(x), before);
     }
 
     static String thrownBy(Runnable body) {
@@ -66,6 +80,28 @@ final class Check {
             all.append(k == 0 ? "" : " ").append(x.met(k));
         }
         return all.toString();
+    }
+
+    /** All that can be asked: the entries, what is met, and the next rectangle. */
+    static String state(RangeReaders x) {
+        StringBuilder all = new StringBuilder();
+        int left = x.count();
+        for (int n = 0; left > 0 && n < 40000; n++) {
+            if (x.entry(n, 0) != RangeReaders.NONE) {
+                all.append(n).append(" of ").append(x.entry(n, 5)).append(" at ").append(area(x, n)).append("; ");
+                left--;
+            }
+        }
+        return all.append("met ").append(met(x)).append("; next ").append(next(x)).toString();
+    }
+
+    /** The next rectangle, seen by an entry that is made with it and goes again. */
+    private static String next(RangeReaders x) {
+        int[] number = {RangeReaders.NONE};
+        String thrown = thrownBy(() -> number[0] = x.add(0));
+        String seen = number[0] == RangeReaders.NONE ? thrown : area(x, number[0]);
+        x.remove(number[0]);
+        return seen;
     }
 
     static void end() {
