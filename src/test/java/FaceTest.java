@@ -27,6 +27,8 @@ public final class FaceTest {
         Check.due("the constructors", constructors(face), "public RangeReaders()");
         Check.due("the fields", fields(face), "public static final int RangeReaders.NONE");
         Check.due("static state", staticState(face), "");
+        Check.due("private methods with a public one's name", hiddenNamesakes(face), "");
+        Check.due("classes inside that are open to others or not static", openClasses(face), "");
         Check.end();
     }
 
@@ -74,6 +76,27 @@ public final class FaceTest {
         for (Field f : face.getDeclaredFields()) {
             if (Modifier.isStatic(f.getModifiers()) && !Modifier.isFinal(f.getModifiers())) {
                 all.add(f.toString());
+            }
+        }
+        return String.join("; ", all);
+    }
+
+    private static String hiddenNamesakes(Class<?> face) {
+        TreeSet<String> shown = new TreeSet<>();
+        TreeSet<String> hidden = new TreeSet<>();
+        for (Method m : face.getDeclaredMethods()) {
+            (Modifier.isPublic(m.getModifiers()) ? shown : hidden).add(m.getName());
+        }
+        hidden.retainAll(shown);
+        return String.join("; ", hidden);
+    }
+
+    private static String openClasses(Class<?> face) {
+        TreeSet<String> all = new TreeSet<>();
+        for (Class<?> inside : face.getDeclaredClasses()) {
+            int is = inside.getModifiers();
+            if (Modifier.isPublic(is) || Modifier.isProtected(is) || !Modifier.isStatic(is)) {
+                all.add(inside.getSimpleName());
             }
         }
         return String.join("; ", all);
